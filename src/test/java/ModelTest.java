@@ -177,11 +177,16 @@ public final class ModelTest {
     private final int groups;
     private final int tags;
     private final int offersInTen;
+    /** Some runs offer to each of three inputs in each slot, so that inputs come to their limit. */
+    private final boolean crowded;
+    private int turn = 0;
     private final StringBuilder told = new StringBuilder();
 
-    private ModelTest(long seed) {
-        random = new Random(seed);
-        outputs = 1 + random.nextInt(8);
+    private ModelTest(int run) {
+        // Random's first numbers are nearly the same for seeds that lie near each other.
+        random = new Random(run * 0x9E3779B97F4A7C15L);
+        crowded = random.nextInt(4) == 0;
+        outputs = crowded ? 1 : 1 + random.nextInt(8);
         groups = 1 + random.nextInt(8);
         tags = 1 + random.nextInt(40);
         offersInTen = 3 + random.nextInt(6);
@@ -201,23 +206,30 @@ public final class ModelTest {
     }
 
     private boolean oneCall(int call) {
-        if (call < 8) {
+        // Some outputs keep the order that they have at first.
+        if (call < 8 && random.nextInt(3) > 0) {
             return setOrder(call, random.nextInt(3));
         }
         int choice = random.nextInt(100);
+        if (crowded && choice < 98) {
+            turn = (turn + 1) % 4;
+            return turn == 3 ? slot() : offer(turn, 0);
+        }
         if (choice < 8 * offersInTen) {
-            return offer();
+            return offer(wild(8), wild(outputs));
         }
         if (random.nextInt(3) > 0) {
-            int got = x.slot();
-            return same("slot()", got, model.slot());
+            return slot();
         }
         return choice < 99 || random.nextInt(5) > 0 ? question(random.nextInt(12)) : doReset();
     }
 
-    private boolean offer() {
-        int input = wild(8);
-        int output = wild(outputs);
+    private boolean slot() {
+        int got = x.slot();
+        return same("slot()", got, model.slot());
+    }
+
+    private boolean offer(int input, int output) {
         int group = wild(groups);
         int tag = random.nextInt(tags) - 2;
         return same("offer(" + input + ", " + output + ", " + group + ", " + tag + ")",

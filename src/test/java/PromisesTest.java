@@ -56,9 +56,12 @@ public final class PromisesTest {
         due("slot of an empty switch", x.slot(), 0);
         for (int output = 0; output < 8; output++) {
             EvenSwitch y = new EvenSwitch();
-            offerAll(y, output, 7, 0);
+            for (int input = 0; input < 8; input++) {
+                y.offer(input, output, 7 - input, 0);
+            }
             y.slot();
-            due("order is LINE at first", inputsInOrder(y, output), "1234567");
+            due("order is LINE, not PRIORITY", inputsInOrder(y, output), "1234567");
+            due("order is LINE, not CLOCK", timesInOrder(y, output), "0 0 0 0 0 0 0 ");
             for (int group = 0; group < 8; group++) {
                 due("weight is 1 at first", firstTime(output, group), 65536);
             }
