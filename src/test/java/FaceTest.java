@@ -91,7 +91,10 @@ public final class FaceTest {
         x.slot();
     }
 
-    /** Each input to its 64 cells, all for one output: far beyond 512 calls, and still no throw. */
+    /**
+     * Each input to its 64 cells, all for one output: far beyond call 512, where the answers are free
+     * but a throw is not.
+     */
     private static void fullSwitch() {
         for (int kind = 0; kind < 3; kind++) {
             EvenSwitch x = new EvenSwitch();
@@ -105,10 +108,6 @@ public final class FaceTest {
                 x.time(0, x.waiting(0) - 1);
                 x.leaves(n);
             }
-            for (int input = 0; input < 8; input++) {
-                due("no input goes above 64", x.inside(input) <= 64, true);
-            }
-            due("all inputs' cells wait", x.waiting(0), 511);
         }
     }
 

@@ -39,7 +39,7 @@ public final class PromisesTest {
 
     private static void newObject() {
         promise = 1;
-        EvenSwitch x = new EvenSwitch();
+        CountedSwitch x = new CountedSwitch();
         due("NONE", EvenSwitch.NONE, -1);
         due("slots", x.slots(), 0);
         for (int port = 0; port < 8; port++) {
@@ -55,7 +55,7 @@ public final class PromisesTest {
         due("leaves", x.leaves(0), -1);
         due("slot of an empty switch", x.slot(), 0);
         for (int output = 0; output < 8; output++) {
-            EvenSwitch y = new EvenSwitch();
+            CountedSwitch y = new CountedSwitch();
             for (int input = 0; input < 8; input++) {
                 y.offer(input, output, 7 - input, 0);
             }
@@ -69,7 +69,7 @@ public final class PromisesTest {
     }
 
     private static long firstTime(int output, int group) {
-        EvenSwitch x = new EvenSwitch();
+        CountedSwitch x = new CountedSwitch();
         x.setOrder(output, 2);
         x.setWeight(output, (group + 1) % 8, 255);
         x.offer(0, output, (group + 1) % 8, 0);
@@ -85,7 +85,7 @@ public final class PromisesTest {
             due("CLOCK", orderAfter(output, 2), "123456");
             due("LINE", orderAfter(output, 0), "123456");
         }
-        EvenSwitch x = new EvenSwitch();
+        CountedSwitch x = new CountedSwitch();
         due("one output alone", x.setOrder(3, 1), true);
         offerAll(x, 4, 7, -1);
         x.slot();
@@ -95,7 +95,7 @@ public final class PromisesTest {
     }
 
     private static String orderAfter(int output, int kind) {
-        EvenSwitch x = new EvenSwitch();
+        CountedSwitch x = new CountedSwitch();
         due("setOrder", x.setOrder(output, 2 - kind), true);
         due("setOrder again", x.setOrder(output, kind), true);
         // A cell of class 0 leaves at once under each order and leaves those of inputs 1 .. 6.
@@ -113,7 +113,7 @@ public final class PromisesTest {
 
     private static void setOrderRefusals() {
         promise = 2;
-        EvenSwitch x = new EvenSwitch();
+        CountedSwitch x = new CountedSwitch();
         for (int none : NO_PORTS) {
             due("no such output", x.setOrder(none, 0), false);
         }
@@ -138,7 +138,7 @@ public final class PromisesTest {
     private static void setWeight() {
         promise = 3;
         for (int weight = 1; weight <= 255; weight++) {
-            EvenSwitch x = new EvenSwitch();
+            CountedSwitch x = new CountedSwitch();
             due("setOrder", x.setOrder(6, 2), true);
             due("setWeight", x.setWeight(6, 7, weight), true);
             x.offer(0, 6, 7, 0);
@@ -147,7 +147,7 @@ public final class PromisesTest {
             long step = 65536 / weight + (65536 % weight == 0 ? 0 : 1);
             due("time at a weight", x.time(6, 0), 2 * step);
         }
-        EvenSwitch x = new EvenSwitch();
+        CountedSwitch x = new CountedSwitch();
         x.setOrder(0, 2);
         x.setWeight(0, 0, 2);
         x.offer(0, 0, 0, 0);
@@ -170,7 +170,7 @@ public final class PromisesTest {
 
     private static void setWeightRefusals() {
         promise = 3;
-        EvenSwitch x = new EvenSwitch();
+        CountedSwitch x = new CountedSwitch();
         x.setOrder(0, 2);
         for (int none : NO_PORTS) {
             due("no such output", x.setWeight(none, 0, 9), false);
@@ -190,7 +190,7 @@ public final class PromisesTest {
         promise = 4;
         for (int input = 0; input < 8; input++) {
             for (int output = 0; output < 8; output++) {
-                EvenSwitch x = new EvenSwitch();
+                CountedSwitch x = new CountedSwitch();
                 int tag = 1000 * input - output;
                 due("offer", x.offer(input, output, input, tag), true);
                 due("offered is no coming", x.waiting(output), 0);
@@ -203,7 +203,7 @@ public final class PromisesTest {
         }
         int[] tags = {0, -1, Integer.MIN_VALUE, Integer.MAX_VALUE};
         for (int tag : tags) {
-            EvenSwitch x = new EvenSwitch();
+            CountedSwitch x = new CountedSwitch();
             due("each tag is taken", x.offer(0, 0, 0, tag), true);
             x.slot();
             due("each tag is sent", x.sent(0), tag);
@@ -212,7 +212,7 @@ public final class PromisesTest {
 
     private static void offerRefusals() {
         promise = 4;
-        EvenSwitch x = new EvenSwitch();
+        CountedSwitch x = new CountedSwitch();
         for (int none : NO_PORTS) {
             due("no such input", x.offer(none, 0, 0, 1), false);
             due("no such output", x.offer(0, none, 0, 1), false);
@@ -229,7 +229,7 @@ public final class PromisesTest {
 
     private static void offerLimit() {
         promise = 4;
-        EvenSwitch x = new EvenSwitch();
+        CountedSwitch x = new CountedSwitch();
         x.setOrder(0, 1);
         for (int n = 0; n < 64; n++) {
             due("inside below the limit", x.inside(3), n);
@@ -253,7 +253,7 @@ public final class PromisesTest {
 
     private static void slotLine() {
         promise = 5;
-        EvenSwitch x = new EvenSwitch();
+        CountedSwitch x = new CountedSwitch();
         due("no cells", x.slot(), 0);
         for (int port = 7; port >= 0; port--) {
             x.offer(port, 7 - port, 0, port);
@@ -274,7 +274,7 @@ public final class PromisesTest {
 
     private static void slotPriority() {
         promise = 5;
-        EvenSwitch x = new EvenSwitch();
+        CountedSwitch x = new CountedSwitch();
         x.setOrder(1, 1);
         int[] groups = {4, 2, 7, 2, 0, 7, 4, 0};
         for (int input = 0; input < 8; input++) {
@@ -295,7 +295,7 @@ public final class PromisesTest {
 
     private static void slotClock() {
         promise = 5;
-        EvenSwitch x = new EvenSwitch();
+        CountedSwitch x = new CountedSwitch();
         x.setOrder(4, 2);
         x.setWeight(4, 0, 64);
         x.setWeight(4, 1, 128);
@@ -319,7 +319,7 @@ public final class PromisesTest {
 
     private static void slotClockLastTimes() {
         promise = 5;
-        EvenSwitch x = new EvenSwitch();
+        CountedSwitch x = new CountedSwitch();
         x.setOrder(0, 2);
         x.setWeight(0, 1, 255);
         x.offer(0, 0, 0, 0);
@@ -345,7 +345,7 @@ public final class PromisesTest {
 
     private static void slots() {
         promise = 6;
-        EvenSwitch x = new EvenSwitch();
+        CountedSwitch x = new CountedSwitch();
         for (int n = 0; n < 200; n++) {
             due("slots", x.slots(), n);
             if (n % 3 == 0) {
@@ -359,7 +359,7 @@ public final class PromisesTest {
 
     private static void hasSent() {
         promise = 7;
-        EvenSwitch x = new EvenSwitch();
+        CountedSwitch x = new CountedSwitch();
         x.offer(0, 5, 0, 0);
         due("offered only", x.hasSent(5), false);
         x.slot();
@@ -378,7 +378,7 @@ public final class PromisesTest {
 
     private static void sent() {
         promise = 8;
-        EvenSwitch x = new EvenSwitch();
+        CountedSwitch x = new CountedSwitch();
         x.offer(2, 5, 0, -77);
         x.offer(3, 5, 0, 78);
         due("offered only", x.sent(5), 0);
@@ -396,7 +396,7 @@ public final class PromisesTest {
 
     private static void sentFrom() {
         promise = 9;
-        EvenSwitch x = new EvenSwitch();
+        CountedSwitch x = new CountedSwitch();
         x.offer(7, 7, 0, 1);
         x.offer(0, 7, 0, 2);
         due("offered only", x.sentFrom(7), -1);
@@ -414,7 +414,7 @@ public final class PromisesTest {
 
     private static void waited() {
         promise = 10;
-        EvenSwitch x = new EvenSwitch();
+        CountedSwitch x = new CountedSwitch();
         x.slot();
         x.slot();
         offerAll(x, 3, 0, 0);
@@ -437,7 +437,7 @@ public final class PromisesTest {
 
     private static void inside() {
         promise = 11;
-        EvenSwitch x = new EvenSwitch();
+        CountedSwitch x = new CountedSwitch();
         for (int none : NO_PORTS) {
             due("no such input", x.inside(none), -1);
         }
@@ -457,7 +457,7 @@ public final class PromisesTest {
 
     private static void waiting() {
         promise = 12;
-        EvenSwitch x = new EvenSwitch();
+        CountedSwitch x = new CountedSwitch();
         for (int none : NO_PORTS) {
             due("no such output", x.waiting(none), -1);
         }
@@ -474,7 +474,7 @@ public final class PromisesTest {
 
     private static void first() {
         promise = 13;
-        EvenSwitch x = new EvenSwitch();
+        CountedSwitch x = new CountedSwitch();
         for (int kind = 0; kind < 3; kind++) {
             x.setOrder(kind, kind);
         }
@@ -502,7 +502,7 @@ public final class PromisesTest {
 
     private static void time() {
         promise = 14;
-        EvenSwitch x = new EvenSwitch();
+        CountedSwitch x = new CountedSwitch();
         x.setOrder(1, 1);
         x.setOrder(2, 2);
         x.slot();
@@ -532,7 +532,7 @@ public final class PromisesTest {
 
     private static void leaves() {
         promise = 15;
-        EvenSwitch x = new EvenSwitch();
+        CountedSwitch x = new CountedSwitch();
         x.setOrder(0, 1);
         due("none", x.leaves(0), -1);
         for (int input = 0; input < 8; input++) {
@@ -557,7 +557,7 @@ public final class PromisesTest {
 
     private static void leavesFirstAccepted() {
         promise = 15;
-        EvenSwitch x = new EvenSwitch();
+        CountedSwitch x = new CountedSwitch();
         x.setOrder(0, 1);
         x.offer(7, 0, 7, 5);
         x.offer(6, 1, 0, 5);
@@ -575,7 +575,7 @@ public final class PromisesTest {
         x.slot();
         due("all have left", x.leaves(5), -1);
 
-        EvenSwitch y = new EvenSwitch();
+        CountedSwitch y = new CountedSwitch();
         y.offer(0, 3, 0, 1);
         y.offer(1, 3, 0, 1);
         y.offer(2, 3, 0, 9);
@@ -593,7 +593,7 @@ public final class PromisesTest {
 
     private static void reset() {
         promise = 16;
-        EvenSwitch x = new EvenSwitch();
+        CountedSwitch x = new CountedSwitch();
         offerAll(x, 0, 0, 3);
         x.slot();
         offerAll(x, 1, 0, 3);
@@ -617,7 +617,7 @@ public final class PromisesTest {
 
     private static void resetKeeps() {
         promise = 16;
-        EvenSwitch x = new EvenSwitch();
+        CountedSwitch x = new CountedSwitch();
         x.setOrder(0, 1);
         x.setOrder(1, 2);
         x.setWeight(1, 0, 16);
@@ -644,13 +644,13 @@ public final class PromisesTest {
         due("the order is empty again", x.setOrder(2, 1), true);
     }
 
-    private static void offerAll(EvenSwitch x, int output, int group, int tag) {
+    private static void offerAll(CountedSwitch x, int output, int group, int tag) {
         for (int input = 0; input < 8; input++) {
             due("offer", x.offer(input, output, group, tag), true);
         }
     }
 
-    private static String inputsInOrder(EvenSwitch x, int output) {
+    private static String inputsInOrder(CountedSwitch x, int output) {
         StringBuilder text = new StringBuilder();
         for (int k = 0; k < x.waiting(output); k++) {
             text.append(x.first(output, k));
@@ -658,7 +658,7 @@ public final class PromisesTest {
         return text.toString();
     }
 
-    private static String timesInOrder(EvenSwitch x, int output) {
+    private static String timesInOrder(CountedSwitch x, int output) {
         StringBuilder text = new StringBuilder();
         for (int k = 0; k < x.waiting(output); k++) {
             text.append(x.time(output, k)).append(' ');
