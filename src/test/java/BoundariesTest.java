@@ -800,6 +800,9 @@ public final class BoundariesTest extends SentenceTest {
         for (int tag : tags) {
             due("leaves(" + tag + "), others wait", x.leaves(tag), -1);
         }
+        for (int bit = 0; bit < 32; bit++) {
+            due("a tag that differs in bit " + bit, x.leaves(42 ^ 1 << bit), -1);
+        }
         due("leaves(42)", x.leaves(42), 0);
     }
 

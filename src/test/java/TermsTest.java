@@ -63,6 +63,16 @@ public final class TermsTest extends SentenceTest {
         due("time(0, 0) as call 512", late.time(0, 0), 507 * 256 + 2 * 65536);
         due("calls left", late.callsLeft(), 0);
 
+        CountedSwitch sends = new CountedSwitch();
+        sends.slots(506);
+        due("offer", sends.offer(7, 7, 7, 9), true);
+        due("slot()", sends.slot(), 1);
+        due("hasSent(7)", sends.hasSent(7), true);
+        due("sent(7)", sends.sent(7), 9);
+        due("sentFrom(7)", sends.sentFrom(7), 7);
+        due("waited(7) as call 512", sends.waited(7), 0);
+        due("calls left", sends.callsLeft(), 0);
+
         CountedSwitch full = new CountedSwitch();
         full.setOrder(0, 2);
         for (int n = 0; n < 56; n++) {
@@ -387,6 +397,18 @@ public final class TermsTest extends SentenceTest {
         CountedSwitch more = withTime1024(127);
         due("times", more.timesInOrder(0), "1024 1029");
         due("behind one that is below", more.inputsInOrder(0), "3 1");
+
+        CountedSwitch x = new CountedSwitch();
+        x.setOrder(0, 2);
+        x.setWeight(0, 0, 255);
+        x.setWeight(0, 1, 254);
+        x.setWeight(0, 2, 253);
+        x.offer(2, 0, 2, 0);
+        x.offer(3, 0, 1, 0);
+        x.offer(4, 0, 0, 0);
+        x.slot();
+        due("before those that are above by 1", x.sentFrom(0) + " " + x.inputsInOrder(0), "4 3 2");
+        due("times", x.timesInOrder(0), "259 260");
     }
 
     private static void weights() {
